@@ -554,6 +554,71 @@ public final class PromiseTest {
         due("sent", x.count(6), 0);
         due("register", x.count(8), 0);
         undoErrors();
+        undoOfAllRows();
+    }
+
+    /** Every row is full, down to its last place, and all of it comes back over other rows as full. */
+    private static void undoOfAllRows() {
+        LikelyWalks x = new LikelyWalks();
+        sendEighty(x, 5, 39, 43, 61, "1101");
+        int[] before = allRows(x);
+        due("keep", x.keep(), 80);
+        sendEighty(x, 5, 63, 33, 1, "0010");
+        due("restore", x.restore(), 80);
+        dueRows(x, before);
+        due("undo", x.undo(), 3);
+        due("the first bit", x.sent(0), 0);
+        due("the last bit", x.released(79), 0);
+        due("reset", x.reset(), 80);
+        due("take", x.take(80), 71);
+        before = allRows(x);
+        due("code", x.setCode(5, 39, 43, 61), 3);
+        sendAll(x, "1".repeat(60));
+        due("tail", x.sendTail(), 65);
+        due("take", x.take(65), 56);
+        due("undo", x.undo(), 3);
+        due("undo", x.undo(), 2);
+        due("undo", x.undo(), 1);
+        due("undo", x.undo(), 0);
+        dueRows(x, before);
+    }
+
+    private static void sendEighty(LikelyWalks x, int memory, int first, int second, int third, String bits) {
+        due("code", x.setCode(memory, first, second, third), 3);
+        write(x, bits.repeat(10));
+        due("forty", x.send(), 40);
+        due("eighty", x.send(), 80);
+        due("take", x.take(80), 71);
+        due("finish", x.finish(false), 80);
+        due("wrong", x.wrongBits(), 0);
+        dueReleased(x, bits.repeat(20));
+    }
+
+    private static int[] allRows(LikelyWalks x) {
+        int[] rows = new int[80 + 80 + 480 + 32 * 81];
+        int next = 0;
+        for (int i = 0; i < 80; i++) {
+            rows[next++] = x.sent(i);
+            rows[next++] = x.released(i);
+        }
+        for (int i = 0; i < 240; i++) {
+            rows[next++] = x.line(i, 0);
+            rows[next++] = x.line(i, 1);
+        }
+        for (int state = 0; state < 32; state++) {
+            rows[next++] = x.metric(state);
+            for (int back = 0; back < 80; back++) {
+                rows[next++] = x.survivor(state, back);
+            }
+        }
+        return rows;
+    }
+
+    private static void dueRows(LikelyWalks x, int[] want) {
+        int[] got = allRows(x);
+        for (int i = 0; i < want.length; i++) {
+            due("place " + i + " of all rows", got[i], want[i]);
+        }
     }
 
     /** Neither errors nor NONE nor what is told goes into the history. */
