@@ -1,11 +1,10 @@
 /** Steps, free distance and idle rings of many codes, held against the plain model. */
-public final class EveryCodeTest {
+public final class EveryCodeTest extends Checks {
     private static int codes = 0;
-    private static int wrong = 0;
+    private static Walks walks = new Walks();
+    private static PlainModel model = new PlainModel();
 
     public static void main(String[] args) {
-        LikelyWalks walks = new LikelyWalks();
-        PlainModel model = new PlainModel();
         for (int memory = 1; memory <= 5; memory++) {
             int highest = (2 << memory) - 1;
             int thirdStep = memory <= 3 ? 1 : 13;
@@ -13,35 +12,30 @@ public final class EveryCodeTest {
             for (int first = 1; first <= highest; first += firstStep) {
                 for (int second = 1; second <= highest; second++) {
                     for (int third = 0; third <= highest; third += thirdStep) {
-                        oneCode(walks, model, memory, first, second, third);
+                        oneCode(memory, first, second, third);
                     }
                 }
             }
         }
-        System.out.println("codes: " + codes + ", wrong: " + wrong);
-        if (wrong != 0 || codes == 0) {
-            System.exit(1);
-        }
+        end("codes: " + codes);
     }
 
-    private static void oneCode(LikelyWalks walks, PlainModel model, int memory, int first, int second, int third) {
-        String code = memory + ", " + first + ", " + second + ", " + third;
+    /** Many codes are set in one object, so that one that was before has its part too. */
+    private static void oneCode(int memory, int first, int second, int third) {
+        if (walks.callsLeft() < 7) {
+            walks = new Walks();
+            model = new PlainModel();
+        }
+        about("code " + memory + ", " + first + ", " + second + ", " + third);
         codes++;
-        due(code, "setCode", walks.setCode(memory, first, second, third), model.setCode(memory, first, second, third));
-        due(code, "freeDistance", walks.freeDistance(), model.freeDistance());
-        due(code, "hasIdleRing", walks.hasIdleRing(), model.hasIdleRing());
+        due("setCode", walks.setCode(memory, first, second, third), model.setCode(memory, first, second, third));
+        due("freeDistance", walks.freeDistance(), model.freeDistance());
+        due("hasIdleRing", walks.hasIdleRing(), model.hasIdleRing());
         int state = codes % (1 << memory);
         for (int what = 0; what < 2; what++) {
             for (int bit = 0; bit < 2; bit++) {
-                due(code, "step", walks.step(state, bit, what), model.step(state, bit, what));
+                due("step", walks.step(state, bit, what), model.step(state, bit, what));
             }
-        }
-    }
-
-    private static void due(String code, String call, int got, int want) {
-        if (got != want) {
-            wrong++;
-            System.out.println("code " + code + ": " + call + " answered " + got + ", due is " + want);
         }
     }
 }

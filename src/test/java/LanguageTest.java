@@ -19,8 +19,10 @@ public final class LanguageTest {
         "sent(int)int", "released(int)int", "metric(int)int", "survivor(int,int)int", "agreed()int",
         "freeDistance()int", "hasIdleRing()int", "wrongBits()int", "count(int)int");
     private static final Set<String> CONSTANTS = Set.of("UNKNOWN", "BAD_VALUE", "FULL", "NOT_POSSIBLE", "NONE");
-    private static final Set<String> CALLS = Set.of("Arrays.fill", "System.arraycopy", "Integer.bitCount",
-        "Long.bitCount", "Math.min");
+    private static final Set<String> IMPORTS = Set.of("java.util.Arrays", "java.util.ArrayList", "java.util.List",
+        "java.util.Iterator");
+    private static final Set<String> CALLS = Set.of("Arrays.fill", "Arrays.copyOf", "Arrays.copyOfRange",
+        "System.arraycopy", "List.of");
 
     private static int wrong = 0;
 
@@ -34,7 +36,7 @@ public final class LanguageTest {
     public static void main(String[] args) throws Exception {
         String source = Files.readString(Path.of("src/main/java/LikelyWalks.java"));
         String code = source.replaceAll("(?s)/\\*.*?\\*/", "").replaceAll("//[^\n]*", "");
-        words(source, code);
+        words(code);
         face();
         insides();
         System.out.println("language: " + wrong + " faults");
@@ -43,27 +45,28 @@ public final class LanguageTest {
         }
     }
 
-    private static void words(String source, String code) {
-        for (char c : source.toCharArray()) {
+    private static void words(String code) {
+        for (char c : code.toCharArray()) {
             dueThat(c < 128, "a sign above 127");
         }
-        String[] forbidden = {"package", "throw", "throws", "try", "catch", "synchronized", "assert", "instanceof",
-            "double", "float", "->", "::", "@", "\"", "Object", "Exception", "while", "do", "protected"};
+        String[] forbidden = {"package", "throw", "throws", "try", "catch", "synchronized", "assert", "protected",
+            "Object", "hashCode", "Thread", "Random"};
         for (String word : forbidden) {
-            boolean isName = Character.isLetter(word.charAt(0));
-            Pattern pattern = Pattern.compile(isName ? "\\b" + word + "\\b" : Pattern.quote(word));
-            dueThat(!pattern.matcher(code).find(), word + " stands in the source");
+            dueThat(!Pattern.compile("\\b" + word + "\\b").matcher(code).find(), word + " stands in the source");
         }
+        dueThat(!code.contains("::"), "a method reference stands in the source");
+        dueThat(!Pattern.compile("(?m)^(?!\\s*(case|default)\\b).*->").matcher(code).find(), "a lambda stands there");
+        dueThat(!Pattern.compile("\\bstatic\\s*\\{").matcher(code).find(), "a static block stands in the source");
         Matcher imports = Pattern.compile("import ([^;]+);").matcher(code);
         while (imports.find()) {
-            dueThat(imports.group(1).equals("java.util.Arrays"), "import " + imports.group(1));
+            dueThat(IMPORTS.contains(imports.group(1)), "import " + imports.group(1));
         }
-        Matcher calls = Pattern.compile("\\b([A-Z][a-z]\\w*\\.\\w+)\\(").matcher(code);
+        Matcher calls = Pattern.compile("\\b(System|Arrays|List|Integer|Long|Math|String)\\.(\\w+)\\(").matcher(code);
         while (calls.find()) {
-            dueThat(CALLS.contains(calls.group(1)), "call of " + calls.group(1));
+            boolean isOfNumbers = calls.group(1).matches("Integer|Long|Math") && !calls.group(2).endsWith("Exact");
+            String call = calls.group(1) + "." + calls.group(2);
+            dueThat(isOfNumbers || CALLS.contains(call), "call of " + call);
         }
-        dueThat(!Pattern.compile("(?s)for[^{]*\\{[^}]*\\bnew\\b").matcher(code.replaceFirst("past\\[i\\] = new", ""))
-            .find(), "an object is made in a loop");
     }
 
     private static void face() {
@@ -120,7 +123,11 @@ public final class LanguageTest {
         for (Class<?> inside : insides) {
             dueThat(Modifier.isStatic(inside.getModifiers()), inside + " is not static");
             dueThat(!Modifier.isPublic(inside.getModifiers()), inside + " is public");
-            dueThat(inside.getDeclaredFields().length <= 20, inside + " has too many fields");
+            int fields = 0;
+            for (Field field : inside.getDeclaredFields()) {
+                fields += Modifier.isStatic(field.getModifiers()) ? 0 : 1;
+            }
+            dueThat(fields <= 20, inside + " has too many fields");
             for (Method method : inside.getDeclaredMethods()) {
                 dueThat(!publicNames.contains(method.getName()), "the name of " + method);
                 dueThat(method.getParameterCount() <= 7, "the parameters of " + method);

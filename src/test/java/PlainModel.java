@@ -6,13 +6,7 @@ import java.util.List;
  * for room: walks are kept whole as texts, states are copied into lists. It is
  * what RandomRunsTest holds the program against.
  */
-final class PlainModel {
-    static final int UNKNOWN = -1;
-    static final int BAD_VALUE = -2;
-    static final int FULL = -3;
-    static final int NOT_POSSIBLE = -4;
-    static final int NONE = -5;
-
+final class PlainModel implements Face {
     static final class Walk {
         final int metric;
         final String bits;
@@ -105,7 +99,8 @@ final class PlainModel {
         return (bit * states() + register) / 2;
     }
 
-    int setCode(int memory, int first, int second, int third) {
+    @Override
+    public int setCode(int memory, int first, int second, int third) {
         if (memory < 1 || memory > 5) {
             return BAD_VALUE;
         }
@@ -123,7 +118,8 @@ final class PlainModel {
         return outputs();
     }
 
-    int setDepth(int depth) {
+    @Override
+    public int setDepth(int depth) {
         if (depth < 2 || depth > 40) {
             return BAD_VALUE;
         }
@@ -158,7 +154,8 @@ final class PlainModel {
         e.register = after(e.register, bit);
     }
 
-    int send() {
+    @Override
+    public int send() {
         if (fault("01") >= 0) {
             return -100 - fault("01");
         }
@@ -172,7 +169,8 @@ final class PlainModel {
         return e.sent.length();
     }
 
-    int sendTail() {
+    @Override
+    public int sendTail() {
         if (e.sent.length() + e.memory > 80) {
             return FULL;
         }
@@ -191,7 +189,8 @@ final class PlainModel {
         return symbol >= 0 && symbol < e.line.length();
     }
 
-    int flip(int symbol) {
+    @Override
+    public int flip(int symbol) {
         if (!onLine(symbol)) {
             return UNKNOWN;
         }
@@ -203,7 +202,8 @@ final class PlainModel {
         return e.line.charAt(symbol) - '0';
     }
 
-    int erase(int symbol) {
+    @Override
+    public int erase(int symbol) {
         if (!onLine(symbol)) {
             return UNKNOWN;
         }
@@ -260,7 +260,8 @@ final class PlainModel {
         }
     }
 
-    int take(int steps) {
+    @Override
+    public int take(int steps) {
         if (steps < 1 || steps > 80) {
             return BAD_VALUE;
         }
@@ -278,7 +279,8 @@ final class PlainModel {
         return e.released.length();
     }
 
-    int hear() {
+    @Override
+    public int hear() {
         if (fault("01?") >= 0) {
             return -100 - fault("01?");
         }
@@ -298,7 +300,8 @@ final class PlainModel {
         return e.released.length();
     }
 
-    int finish(boolean tail) {
+    @Override
+    public int finish(boolean tail) {
         if (e.finished || tail && e.walks.get(0) == null) {
             return NOT_POSSIBLE;
         }
@@ -308,7 +311,8 @@ final class PlainModel {
         return e.released.length();
     }
 
-    int reset() {
+    @Override
+    public int reset() {
         act();
         int steps = e.steps;
         e.steps = 0;
@@ -319,7 +323,8 @@ final class PlainModel {
         return steps;
     }
 
-    int type(char character) {
+    @Override
+    public int type(char character) {
         if (text.length() == 60) {
             return FULL;
         }
@@ -327,13 +332,15 @@ final class PlainModel {
         return text.length();
     }
 
-    int clearText() {
+    @Override
+    public int clearText() {
         int length = text.length();
         text = "";
         return length;
     }
 
-    int undo() {
+    @Override
+    public int undo() {
         if (history.isEmpty()) {
             return NONE;
         }
@@ -341,12 +348,14 @@ final class PlainModel {
         return history.size();
     }
 
-    int keep() {
+    @Override
+    public int keep() {
         snapshot = e.copy();
         return e.sent.length();
     }
 
-    int restore() {
+    @Override
+    public int restore() {
         if (snapshot == null) {
             return NONE;
         }
@@ -359,7 +368,8 @@ final class PlainModel {
         return state >= 0 && state < states();
     }
 
-    int step(int state, int bit, int what) {
+    @Override
+    public int step(int state, int bit, int what) {
         if (!isState(state)) {
             return UNKNOWN;
         }
@@ -369,7 +379,8 @@ final class PlainModel {
         return what == 0 ? after(state, bit) : Integer.parseInt(symbols(state, bit), 2);
     }
 
-    int line(int symbol, int what) {
+    @Override
+    public int line(int symbol, int what) {
         if (!onLine(symbol)) {
             return UNKNOWN;
         }
@@ -382,22 +393,26 @@ final class PlainModel {
         return "01?".indexOf((what == 0 ? e.line : e.original).charAt(symbol));
     }
 
-    int sent(int bit) {
+    @Override
+    public int sent(int bit) {
         return bit < 0 || bit >= e.sent.length() ? UNKNOWN : e.sent.charAt(bit) - '0';
     }
 
-    int released(int bit) {
+    @Override
+    public int released(int bit) {
         return bit < 0 || bit >= e.released.length() ? UNKNOWN : e.released.charAt(bit) - '0';
     }
 
-    int metric(int state) {
+    @Override
+    public int metric(int state) {
         if (!isState(state)) {
             return UNKNOWN;
         }
         return e.walks.get(state) == null ? NONE : e.walks.get(state).metric;
     }
 
-    int survivor(int state, int back) {
+    @Override
+    public int survivor(int state, int back) {
         if (!isState(state)) {
             return UNKNOWN;
         }
@@ -411,7 +426,8 @@ final class PlainModel {
         return walk.bits.charAt(walk.bits.length() - 1 - back) - '0';
     }
 
-    int agreed() {
+    @Override
+    public int agreed() {
         String common = null;
         for (Walk walk : e.walks) {
             if (walk == null) {
@@ -428,7 +444,8 @@ final class PlainModel {
     }
 
     /** Least weights of walks of each length, up to far more steps than a least walk has. */
-    int freeDistance() {
+    @Override
+    public int freeDistance() {
         int far = 1000000;
         int[] least = new int[states()];
         java.util.Arrays.fill(least, far);
@@ -451,7 +468,8 @@ final class PlainModel {
     }
 
     /** Who can come to whom by symbols 0 alone, closed over all states between. */
-    int hasIdleRing() {
+    @Override
+    public int hasIdleRing() {
         int n = states();
         boolean[][] comes = new boolean[n][n];
         for (int s = 1; s < n; s++) {
@@ -476,7 +494,8 @@ final class PlainModel {
         return 0;
     }
 
-    int wrongBits() {
+    @Override
+    public int wrongBits() {
         int wrong = 0;
         for (int i = 0; i < e.sent.length() && i < e.released.length(); i++) {
             if (e.sent.charAt(i) != e.released.charAt(i)) {
@@ -486,7 +505,8 @@ final class PlainModel {
         return wrong;
     }
 
-    int count(int what) {
+    @Override
+    public int count(int what) {
         int erased = 0;
         int flipped = 0;
         for (int i = 0; i < e.line.length(); i++) {

@@ -1,24 +1,5 @@
 /** For each promise of the document: ordinary inputs, the edges it names, and wrong inputs. */
-public final class PromiseTest {
-    private static final int UNKNOWN = -1;
-    private static final int BAD_VALUE = -2;
-    private static final int FULL = -3;
-    private static final int NOT_POSSIBLE = -4;
-    private static final int NONE = -5;
-    private static final int[] FAR = {Integer.MIN_VALUE, -1000000, 1000000, Integer.MAX_VALUE};
-
-    private static int promise = 0;
-    private static int checks = 0;
-    private static int wrong = 0;
-
-    private static void due(String call, int got, int want) {
-        checks++;
-        if (got != want) {
-            wrong++;
-            System.out.println("promise " + promise + ": " + call + " answered " + got + ", due is " + want);
-        }
-    }
-
+public final class PromiseTest extends Checks {
     public static void main(String[] args) {
         Runnable[] promises = {
             PromiseTest::newObject, PromiseTest::setCode, PromiseTest::setDepth, PromiseTest::send,
@@ -27,87 +8,17 @@ public final class PromiseTest {
             PromiseTest::keep, PromiseTest::restore, PromiseTest::step, PromiseTest::line, PromiseTest::sent,
             PromiseTest::released, PromiseTest::metric, PromiseTest::survivor, PromiseTest::agreed,
             PromiseTest::freeDistance, PromiseTest::hasIdleRing, PromiseTest::wrongBits, PromiseTest::count};
-        for (Runnable one : promises) {
-            promise++;
-            one.run();
+        for (int i = 0; i < promises.length; i++) {
+            about("promise " + (i + 1));
+            promises[i].run();
         }
-        System.out.println("promises: " + promise + ", checks: " + checks + ", wrong: " + wrong);
-        if (wrong != 0 || promise != 27) {
-            System.exit(1);
-        }
-    }
-
-    // ---- helpers
-
-    private static void write(LikelyWalks x, String text) {
-        x.clearText();
-        for (int i = 0; i < text.length(); i++) {
-            due("type", x.type(text.charAt(i)), i + 1);
-        }
-    }
-
-    private static void sendAll(LikelyWalks x, String bits) {
-        write(x, bits);
-        due("send() of " + bits, x.send(), bits.length());
-    }
-
-    private static LikelyWalks withSent(String bits) {
-        LikelyWalks x = new LikelyWalks();
-        sendAll(x, bits);
-        return x;
-    }
-
-    private static LikelyWalks withHeard(String symbols, int released) {
-        LikelyWalks x = new LikelyWalks();
-        write(x, symbols);
-        due("hear() of " + symbols, x.hear(), released);
-        return x;
-    }
-
-    private static void dueCounts(LikelyWalks x, int... counts) {
-        for (int i = 0; i < counts.length; i++) {
-            due("count(" + i + ")", x.count(i), counts[i]);
-        }
-    }
-
-    private static void dueLine(LikelyWalks x, String symbols) {
-        due("count(7)", x.count(7), symbols.length());
-        for (int i = 0; i < symbols.length(); i++) {
-            due("line(" + i + ", 0)", x.line(i, 0), "01?".indexOf(symbols.charAt(i)));
-        }
-        due("line behind the end", x.line(symbols.length(), 0), UNKNOWN);
-    }
-
-    private static void dueReleased(LikelyWalks x, String bits) {
-        due("count(12)", x.count(12), bits.length());
-        for (int i = 0; i < bits.length(); i++) {
-            due("released(" + i + ")", x.released(i), bits.charAt(i) - '0');
-        }
-        due("released behind the end", x.released(bits.length()), UNKNOWN);
-    }
-
-    private static void dueSurvivor(LikelyWalks x, int state, String bits) {
-        for (int back = 0; back < bits.length(); back++) {
-            due("survivor(" + state + ", " + back + ")", x.survivor(state, back),
-                bits.charAt(bits.length() - 1 - back) - '0');
-        }
-        due("survivor(" + state + ", all)", x.survivor(state, bits.length()), NONE);
-    }
-
-    private static void dueMetrics(LikelyWalks x, int... metrics) {
-        for (int state = 0; state < metrics.length; state++) {
-            due("metric(" + state + ")", x.metric(state), metrics[state]);
-        }
-    }
-
-    private static String zeros(int length) {
-        return "0".repeat(length);
+        end("promises: " + promises.length);
     }
 
     // ---- the promises, in order
 
     private static void newObject() {
-        LikelyWalks x = new LikelyWalks();
+        Walks x = new Walks();
         dueCounts(x, 2, 2, 7, 5, NONE, 10, 0, 0, 0, 0, 0, 0, 0, 0, 0, 1, 0, 0, 0);
         dueMetrics(x, 0, NONE, NONE, NONE, UNKNOWN);
         due("restore()", x.restore(), NONE);
@@ -120,7 +31,7 @@ public final class PromiseTest {
     }
 
     private static void setCode() {
-        LikelyWalks x = withSent("1011");
+        Walks x = withSent("1011");
         due("setDepth", x.setDepth(3), 10);
         due("take", x.take(4), 2);
         due("setCode", x.setCode(3, 15, 1, 8), 3);
@@ -155,7 +66,7 @@ public final class PromiseTest {
     }
 
     private static void setDepth() {
-        LikelyWalks x = new LikelyWalks();
+        Walks x = new Walks();
         due("least", x.setDepth(2), 10);
         due("most", x.setDepth(40), 2);
         due("count", x.count(5), 40);
@@ -179,7 +90,7 @@ public final class PromiseTest {
     }
 
     private static void send() {
-        LikelyWalks x = withSent("10110");
+        Walks x = withSent("10110");
         // Window by window: 100, 010, 101, 110, 011 against the taps 111 and 101.
         dueLine(x, "1110000101");
         due("register", x.count(8), 1);
@@ -189,7 +100,7 @@ public final class PromiseTest {
         due("sent", x.count(6), 5);
         due("register", x.count(8), 1);
         dueLine(x, "1110000101");
-        x = new LikelyWalks();
+        x = new Walks();
         due("empty text", x.send(), -100);
         write(x, "0?1");
         due("erased", x.send(), -101);
@@ -220,7 +131,7 @@ public final class PromiseTest {
     }
 
     private static void sendTail() {
-        LikelyWalks x = withSent("11");
+        Walks x = withSent("11");
         due("register", x.count(8), 3);
         due("tail", x.sendTail(), 4);
         due("register", x.count(8), 0);
@@ -249,7 +160,7 @@ public final class PromiseTest {
     }
 
     private static void flip() {
-        LikelyWalks x = withSent("1010");
+        Walks x = withSent("1010");
         dueLine(x, "11100010");
         due("flip", x.flip(0), 0);
         due("flip", x.flip(3), 1);
@@ -276,11 +187,11 @@ public final class PromiseTest {
         write(x, "11");
         due("hear", x.hear(), 0);
         due("heard, not taken", x.flip(0), 1);
-        due("empty line", new LikelyWalks().flip(0), UNKNOWN);
+        due("empty line", new Walks().flip(0), UNKNOWN);
     }
 
     private static void erase() {
-        LikelyWalks x = withSent("1010");
+        Walks x = withSent("1010");
         due("one", x.erase(0), 1);
         due("zero", x.erase(3), 0);
         dueLine(x, "?11?0010");
@@ -307,7 +218,7 @@ public final class PromiseTest {
     }
 
     private static void take() {
-        LikelyWalks x = withSent("1011000");
+        Walks x = withSent("1011000");
         due("flip", x.flip(3), 1);
         due("erase", x.erase(5), 0);
         due("depth", x.setDepth(4), 10);
@@ -336,7 +247,7 @@ public final class PromiseTest {
 
     /** With all erased, all metrics are 0: the lowest state survives and the best is the state 0. */
     private static void takeWithTies() {
-        LikelyWalks x = withSent("11111");
+        Walks x = withSent("11111");
         for (int i = 0; i < 10; i++) {
             x.erase(i);
         }
@@ -352,7 +263,7 @@ public final class PromiseTest {
     }
 
     private static void takeUntilFull() {
-        LikelyWalks x = withHeard("??", 0);
+        Walks x = withHeard("??", 0);
         write(x, zeros(40));
         due("send", x.send(), 40);
         due("send", x.send(), 80);
@@ -366,7 +277,7 @@ public final class PromiseTest {
 
     private static void hear() {
         // The same steps as on the line of 1011000 with one flipped and one erased.
-        LikelyWalks x = withHeard("11110?", 0);
+        Walks x = withHeard("11110?", 0);
         dueMetrics(x, 2, 1, 1, 2);
         due("steps", x.count(11), 3);
         due("the text stays", x.count(18), 6);
@@ -398,7 +309,7 @@ public final class PromiseTest {
     }
 
     private static void hearErrors() {
-        LikelyWalks x = new LikelyWalks();
+        Walks x = new Walks();
         due("empty", x.hear(), -100);
         write(x, "01x");
         due("fault ahead of bad", x.hear(), -102);
@@ -425,7 +336,7 @@ public final class PromiseTest {
     }
 
     private static void finish() {
-        LikelyWalks x = withSent("101");
+        Walks x = withSent("101");
         due("take", x.take(3), 0);
         due("best", x.count(13), 2);
         due("best", x.finish(false), 3);
@@ -444,13 +355,13 @@ public final class PromiseTest {
         due("nothing taken", x.finish(true), 0);
         due("nothing released", x.count(12), 0);
         due("act", x.count(17), 4);
-        due("depth", new LikelyWalks().setDepth(2), 10);
+        due("depth", new Walks().setDepth(2), 10);
         finishBehindReleased();
     }
 
     /** Bits that were released stay, though the survivor that is told at last has others. */
     private static void finishBehindReleased() {
-        LikelyWalks x = new LikelyWalks();
+        Walks x = new Walks();
         due("depth", x.setDepth(2), 10);
         write(x, "1100");
         due("hear", x.hear(), 1);
@@ -463,7 +374,7 @@ public final class PromiseTest {
     }
 
     private static void reset() {
-        LikelyWalks x = withSent("1100");
+        Walks x = withSent("1100");
         due("depth", x.setDepth(2), 10);
         due("take", x.take(3), 2);
         due("finish", x.finish(false), 3);
@@ -483,7 +394,7 @@ public final class PromiseTest {
     }
 
     private static void type() {
-        LikelyWalks x = new LikelyWalks();
+        Walks x = new Walks();
         char[] any = {'0', '1', '?', 'x', (char) 0, (char) 65535, (char) 233, (char) 0x130, (char) 0x661};
         for (int i = 0; i < any.length; i++) {
             due("type", x.type(any[i]), i + 1);
@@ -501,16 +412,15 @@ public final class PromiseTest {
         due("undo", x.undo(), 0);
         due("the text stays", x.count(18), 60);
         for (char c = 0; c < 400; c++) {
-            x.clearText();
+            x = new Walks();
             x.type(c);
             boolean isBit = c == '0' || c == '1';
             due("send of " + (int) c, x.send() > 0 ? 1 : x.send(), isBit ? 1 : -100);
-            x.undo();
         }
     }
 
     private static void clearText() {
-        LikelyWalks x = new LikelyWalks();
+        Walks x = new Walks();
         due("empty", x.clearText(), 0);
         write(x, "10");
         due("two", x.clearText(), 2);
@@ -524,7 +434,7 @@ public final class PromiseTest {
     }
 
     private static void undo() {
-        LikelyWalks x = new LikelyWalks();
+        Walks x = new Walks();
         due("empty", x.undo(), NONE);
         for (int depth = 2; depth <= 7; depth++) {
             x.setDepth(depth);
@@ -559,11 +469,11 @@ public final class PromiseTest {
 
     /** Every row is full, down to its last place, and all of it comes back over other rows as full. */
     private static void undoOfAllRows() {
-        LikelyWalks x = new LikelyWalks();
-        sendEighty(x, 5, 39, 43, 61, "1101");
-        int[] before = allRows(x);
+        Walks x = new Walks();
+        readEighty(x, 5, 39, 43, 61, "1101");
+        int[] before = Told.asItIs(x);
         due("keep", x.keep(), 80);
-        sendEighty(x, 5, 63, 33, 1, "0010");
+        readEighty(x, 5, 63, 33, 1, "0010");
         due("restore", x.restore(), 80);
         dueRows(x, before);
         due("undo", x.undo(), 3);
@@ -571,7 +481,7 @@ public final class PromiseTest {
         due("the last bit", x.released(79), 0);
         due("reset", x.reset(), 80);
         due("take", x.take(80), 71);
-        before = allRows(x);
+        before = Told.asItIs(x);
         due("code", x.setCode(5, 39, 43, 61), 3);
         sendAll(x, "1".repeat(60));
         due("tail", x.sendTail(), 65);
@@ -583,47 +493,27 @@ public final class PromiseTest {
         dueRows(x, before);
     }
 
-    private static void sendEighty(LikelyWalks x, int memory, int first, int second, int third, String bits) {
+    private static void readEighty(Walks x, int memory, int first, int second, int third, String bits) {
         due("code", x.setCode(memory, first, second, third), 3);
-        write(x, bits.repeat(10));
-        due("forty", x.send(), 40);
-        due("eighty", x.send(), 80);
+        sendEighty(x, bits.repeat(10));
         due("take", x.take(80), 71);
         due("finish", x.finish(false), 80);
         due("wrong", x.wrongBits(), 0);
         dueReleased(x, bits.repeat(20));
     }
 
-    private static int[] allRows(LikelyWalks x) {
-        int[] rows = new int[80 + 80 + 480 + 32 * 81];
-        int next = 0;
-        for (int i = 0; i < 80; i++) {
-            rows[next++] = x.sent(i);
-            rows[next++] = x.released(i);
-        }
-        for (int i = 0; i < 240; i++) {
-            rows[next++] = x.line(i, 0);
-            rows[next++] = x.line(i, 1);
-        }
-        for (int state = 0; state < 32; state++) {
-            rows[next++] = x.metric(state);
-            for (int back = 0; back < 80; back++) {
-                rows[next++] = x.survivor(state, back);
-            }
-        }
-        return rows;
-    }
-
-    private static void dueRows(LikelyWalks x, int[] want) {
-        int[] got = allRows(x);
+    private static void dueRows(Walks x, int[] want) {
+        int[] got = Told.asItIs(x);
         for (int i = 0; i < want.length; i++) {
-            due("place " + i + " of all rows", got[i], want[i]);
+            if (!Told.NAMES.get(i).equals("count(17)") && !Told.NAMES.get(i).equals("count(18)")) {
+                due(Told.NAMES.get(i), got[i], want[i]);
+            }
         }
     }
 
     /** Neither errors nor NONE nor what is told goes into the history. */
     private static void undoErrors() {
-        LikelyWalks x = withSent("11");
+        Walks x = withSent("11");
         x.setCode(0, 0, 0, 0);
         x.setDepth(10);
         x.setDepth(1);
@@ -641,7 +531,7 @@ public final class PromiseTest {
     }
 
     private static void keep() {
-        LikelyWalks x = new LikelyWalks();
+        Walks x = new Walks();
         due("empty", x.keep(), 0);
         sendAll(x, "1101");
         due("erase", x.erase(2), 0);
@@ -659,7 +549,7 @@ public final class PromiseTest {
     }
 
     private static void restore() {
-        LikelyWalks x = new LikelyWalks();
+        Walks x = new Walks();
         due("none", x.restore(), NONE);
         due("no act", x.count(17), 0);
         sendAll(x, "1101");
@@ -686,7 +576,7 @@ public final class PromiseTest {
     }
 
     private static void step() {
-        LikelyWalks x = new LikelyWalks();
+        Walks x = new Walks();
         int[] after = {0, 2, 0, 2, 1, 3, 1, 3};
         int[] symbols = {0, 3, 3, 0, 2, 1, 1, 2};
         for (int i = 0; i < 8; i++) {
@@ -710,7 +600,7 @@ public final class PromiseTest {
     }
 
     private static void line() {
-        LikelyWalks x = withSent("10");
+        Walks x = withSent("10");
         dueLine(x, "1110");
         due("flip", x.flip(1), 0);
         due("erase", x.erase(2), 1);
@@ -732,7 +622,7 @@ public final class PromiseTest {
     }
 
     private static void sent() {
-        LikelyWalks x = withSent("1101");
+        Walks x = withSent("1101");
         int[] bits = {1, 1, 0, 1};
         for (int i = 0; i < 4; i++) {
             due("sent(" + i + ")", x.sent(i), bits[i]);
@@ -748,11 +638,11 @@ public final class PromiseTest {
         }
         due("noise", x.flip(0), 0);
         due("is no matter", x.sent(0), 1);
-        due("none", new LikelyWalks().sent(0), UNKNOWN);
+        due("none", new Walks().sent(0), UNKNOWN);
     }
 
     private static void released() {
-        LikelyWalks x = withSent("110100110101");
+        Walks x = withSent("110100110101");
         due("none yet", x.released(0), UNKNOWN);
         due("nine", x.take(9), 0);
         due("none yet", x.released(0), UNKNOWN);
@@ -769,7 +659,7 @@ public final class PromiseTest {
     }
 
     private static void metric() {
-        LikelyWalks x = withHeard("11", 0);
+        Walks x = withHeard("11", 0);
         dueMetrics(x, 2, NONE, 0, NONE, UNKNOWN);
         write(x, "10");
         due("hear", x.hear(), 0);
@@ -790,7 +680,7 @@ public final class PromiseTest {
     }
 
     private static void survivor() {
-        LikelyWalks x = withHeard("111001", 0);
+        Walks x = withHeard("111001", 0);
         dueSurvivor(x, 0, "100");
         dueSurvivor(x, 1, "110");
         dueSurvivor(x, 2, "101");
@@ -802,7 +692,7 @@ public final class PromiseTest {
             due("far", x.survivor(far, 0), UNKNOWN);
             due("far back", x.survivor(0, far), far < 0 ? BAD_VALUE : NONE);
         }
-        x = new LikelyWalks();
+        x = new Walks();
         due("nothing taken", x.survivor(0, 0), NONE);
         due("no metric", x.survivor(1, 0), NONE);
         due("bad ahead of none", x.survivor(1, -1), BAD_VALUE);
@@ -819,7 +709,7 @@ public final class PromiseTest {
     }
 
     private static void agreed() {
-        LikelyWalks x = new LikelyWalks();
+        Walks x = new Walks();
         due("nothing taken", x.agreed(), 0);
         x = withHeard("11", 0);
         due("one step", x.agreed(), 0);
@@ -846,7 +736,7 @@ public final class PromiseTest {
     }
 
     private static void freeDistance() {
-        LikelyWalks x = new LikelyWalks();
+        Walks x = new Walks();
         due("7, 5", x.freeDistance(), 5);
         int[][] codes = {{3, 15, 13, 0, 6}, {4, 19, 29, 0, 7}, {5, 43, 61, 0, 8}, {2, 7, 7, 5, 8},
             {3, 11, 13, 15, 10}, {4, 21, 27, 31, 12}, {5, 39, 43, 61, 13}, {1, 1, 1, 0, 2}, {1, 3, 3, 3, 6},
@@ -859,7 +749,7 @@ public final class PromiseTest {
     }
 
     private static void hasIdleRing() {
-        LikelyWalks x = new LikelyWalks();
+        Walks x = new Walks();
         due("7, 5", x.hasIdleRing(), 0);
         int[][] codes = {{1, 3, 3, 0, 1}, {2, 6, 6, 0, 1}, {2, 5, 3, 0, 1}, {2, 6, 5, 3, 1}, {2, 7, 7, 0, 1},
             {2, 7, 7, 7, 1}, {3, 1, 1, 0, 0}, {3, 9, 9, 0, 1}, {5, 33, 33, 33, 1}, {5, 33, 33, 32, 0},
@@ -871,7 +761,7 @@ public final class PromiseTest {
     }
 
     private static void wrongBits() {
-        LikelyWalks x = new LikelyWalks();
+        Walks x = new Walks();
         due("nothing", x.wrongBits(), 0);
         sendAll(x, "1101");
         due("nothing released", x.wrongBits(), 0);
@@ -888,7 +778,7 @@ public final class PromiseTest {
         due("take", x.take(4), 0);
         due("finish", x.finish(false), 4);
         due("none wrong", x.wrongBits(), 0);
-        x = new LikelyWalks();
+        x = new Walks();
         write(x, "1101");
         due("hear", x.hear(), 0);
         due("finish", x.finish(false), 2);
@@ -896,7 +786,7 @@ public final class PromiseTest {
     }
 
     private static void count() {
-        LikelyWalks x = new LikelyWalks();
+        Walks x = new Walks();
         due("code", x.setCode(3, 15, 13, 9), 3);
         sendAll(x, "11011");
         dueCounts(x, 3, 3, 15, 13, 9, 10, 5, 15, 6, 0, 0, 0, 0, 0, 0, 1, 0, 2, 5);
