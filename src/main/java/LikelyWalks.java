@@ -59,7 +59,6 @@ public final class LikelyWalks {
 
     // ---- the code
 
-    /** Sets another code; answers how many symbols a step has, or BAD_VALUE. */
     public int setCode(int memory, int first, int second, int third) {
         if (memory < 1 || memory > MOST_MEMORY) {
             return BAD_VALUE;
@@ -78,7 +77,6 @@ public final class LikelyWalks {
         return now.code.outputs;
     }
 
-    /** Sets the depth; answers the previous one, BAD_VALUE, NOT_POSSIBLE or NONE. */
     public int setDepth(int depth) {
         if (depth < LEAST_DEPTH || depth > MOST_DEPTH) {
             return BAD_VALUE;
@@ -97,7 +95,6 @@ public final class LikelyWalks {
 
     // ---- sending
 
-    /** Sends the bits of the text; answers how many were sent in all, -100 minus the fault, or FULL. */
     public int send() {
         int fault = text.firstFault(1);
         if (fault != NO_FAULT) {
@@ -113,7 +110,6 @@ public final class LikelyWalks {
         return now.sender.bitCount;
     }
 
-    /** Sends as many bits 0 as the memory is; answers how many were sent in all, or FULL. */
     public int sendTail() {
         int length = now.code.memory;
         if (now.sender.bitCount + length > MOST_BITS) {
@@ -126,7 +122,6 @@ public final class LikelyWalks {
         return now.sender.bitCount;
     }
 
-    /** Flips a symbol on the line; answers what it is then, UNKNOWN or NOT_POSSIBLE. */
     public int flip(int symbol) {
         if (!isOnLine(symbol)) {
             return UNKNOWN;
@@ -140,7 +135,6 @@ public final class LikelyWalks {
         return flipped;
     }
 
-    /** Erases a symbol on the line; answers what it was, UNKNOWN, NOT_POSSIBLE or NONE. */
     public int erase(int symbol) {
         if (!isOnLine(symbol)) {
             return UNKNOWN;
@@ -159,7 +153,6 @@ public final class LikelyWalks {
 
     // ---- reading
 
-    /** Takes steps from the line; answers how many bits were released, BAD_VALUE, NOT_POSSIBLE or FULL. */
     public int take(int steps) {
         Reader reader = now.reader;
         if (steps < 1 || steps > MOST_BITS) {
@@ -180,7 +173,6 @@ public final class LikelyWalks {
         return reader.releasedCount;
     }
 
-    /** Takes the symbols of the text; answers as take does, or -100 minus the fault of the text. */
     public int hear() {
         Reader reader = now.reader;
         int fault = text.firstFault(ERASED);
@@ -205,7 +197,6 @@ public final class LikelyWalks {
         return reader.releasedCount;
     }
 
-    /** Finishes the reading; answers how many bits were released in all, or NOT_POSSIBLE. */
     public int finish(boolean tail) {
         Reader reader = now.reader;
         if (reader.isFinished || tail && reader.metrics[0] == NO_METRIC) {
@@ -218,7 +209,6 @@ public final class LikelyWalks {
         return reader.releasedCount;
     }
 
-    /** Resets the reader; answers how many steps it had taken. */
     public int reset() {
         recordNow();
         int steps = now.reader.steps;
@@ -228,7 +218,6 @@ public final class LikelyWalks {
 
     // ---- texts
 
-    /** Types a character behind the text; answers its length then, or FULL. */
     public int type(char character) {
         if (text.length >= MOST_CHARACTERS) {
             return FULL;
@@ -237,7 +226,6 @@ public final class LikelyWalks {
         return text.length;
     }
 
-    /** Empties the text; answers the length that it had. */
     public int clearText() {
         int length = text.length;
         text.length = 0;
@@ -246,7 +234,6 @@ public final class LikelyWalks {
 
     // ---- history
 
-    /** Restores the latest state of the history; answers how many are left, or NONE. */
     public int undo() {
         if (pastCount < 1) {
             return NONE;
@@ -256,14 +243,12 @@ public final class LikelyWalks {
         return pastCount;
     }
 
-    /** Takes a snapshot; answers the number of bits that were sent. */
     public int keep() {
         kept.copyFrom(now);
         isKept = true;
         return now.sender.bitCount;
     }
 
-    /** Restores the snapshot; answers the number of bits that were sent then, or NONE. */
     public int restore() {
         if (!isKept) {
             return NONE;
@@ -275,7 +260,6 @@ public final class LikelyWalks {
 
     // ---- what is told
 
-    /** Tells of a step of the code: the state it comes to (0) or its symbols (1); UNKNOWN; BAD_VALUE. */
     public int step(int state, int bit, int what) {
         if (!now.code.hasState(state)) {
             return UNKNOWN;
@@ -286,7 +270,6 @@ public final class LikelyWalks {
         return what == 0 ? now.code.stateAfter(state, bit) : now.code.symbolsOf(state, bit);
     }
 
-    /** Tells of a symbol: what it is (0), what was sent (1), whether it was taken (2); UNKNOWN; BAD_VALUE. */
     public int line(int symbol, int what) {
         if (!isOnLine(symbol)) {
             return UNKNOWN;
@@ -303,7 +286,6 @@ public final class LikelyWalks {
         }
     }
 
-    /** Tells a bit that was sent; UNKNOWN. */
     public int sent(int bit) {
         if (bit < 0 || bit >= now.sender.bitCount) {
             return UNKNOWN;
@@ -311,7 +293,6 @@ public final class LikelyWalks {
         return now.sender.bits[bit];
     }
 
-    /** Tells a bit that was released; UNKNOWN. */
     public int released(int bit) {
         if (bit < 0 || bit >= now.reader.releasedCount) {
             return UNKNOWN;
@@ -319,7 +300,6 @@ public final class LikelyWalks {
         return now.reader.releasedBits[bit];
     }
 
-    /** Tells the metric of a state; UNKNOWN; NONE. */
     public int metric(int state) {
         if (!now.code.hasState(state)) {
             return UNKNOWN;
@@ -328,7 +308,6 @@ public final class LikelyWalks {
         return metric == NO_METRIC ? NONE : metric;
     }
 
-    /** Tells a bit of a survivor, from its end; UNKNOWN; BAD_VALUE; NONE. */
     public int survivor(int state, int back) {
         if (!now.code.hasState(state)) {
             return UNKNOWN;
@@ -342,23 +321,19 @@ public final class LikelyWalks {
         return now.reader.survivorBit(now.code, state, back);
     }
 
-    /** Tells how many of the first bits all survivors have in common. */
     public int agreed() {
         return now.reader.commonBits(now.code);
     }
 
-    /** Tells the least number of symbols 1 from the state 0 back to it; NONE. */
     public int freeDistance() {
         int least = now.code.leastReturn(distances);
         return least == NO_WALK || least > MOST_FREE_DISTANCE ? NONE : least;
     }
 
-    /** Tells whether a ring that is not over the state 0 has symbols 0 alone. */
     public int hasIdleRing() {
         return now.code.hasRingOfZeros() ? 1 : 0;
     }
 
-    /** Tells how many of the first bits that were both released and sent differ. */
     public int wrongBits() {
         int common = Math.min(now.reader.releasedCount, now.sender.bitCount);
         int wrong = 0;
@@ -370,7 +345,6 @@ public final class LikelyWalks {
         return wrong;
     }
 
-    /** Tells one of nineteen numbers of the whole; NONE; BAD_VALUE. */
     public int count(int what) {
         switch (what) {
             case 0:

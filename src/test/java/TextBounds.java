@@ -9,8 +9,10 @@ final class TextBounds extends Checks {
         undo(all);
         undoTerms(all);
         undoOfFullRows(all);
+        undoOfLastSymbols(all);
         keep(all);
         restore(all);
+        restoreOfLastSymbols(all);
     }
 
     private static void type(Sentences all) {
@@ -282,6 +284,63 @@ final class TextBounds extends Checks {
             dueLine(x, "11010100");
             due("undo", x.undo(), 0);
             dueLine(x, "");
+        });
+    }
+
+    /** A full line that ends in symbols 1. */
+    private static Walks withLastOnes(int third) {
+        Walks x = withCode(5, 32, 32, third);
+        sendEighty(x, zeros(39) + "1");
+        return x;
+    }
+
+    private static void dueLast(Walks x, String call, int symbol) {
+        int last = x.count(7) - 1;
+        due(call + ", the last symbol", x.line(last, 0), symbol);
+        due(call + ", as it was sent", x.line(last, 1), symbol);
+    }
+
+    /** Another line, as full, over the one that was: an act, and two more. */
+    private static void sendOnlyZeros(Walks x, int third) {
+        due("setCode", x.setCode(5, 32, 32, third), third == 0 ? 2 : 3);
+        sendEighty(x, zeros(40));
+        dueLast(x, "send", 0);
+    }
+
+    private static void undoOfLastSymbols(Sentences all) {
+        all.of("undo() removes and restores the latest one", () -> {
+            for (int third : new int[] {0, 32}) {
+                Walks x = withLastOnes(third);
+                int last = x.count(7) - 1;
+                due("erase", x.erase(last), 1);
+                due("undo", x.undo(), 3);
+                dueLast(x, "undo of erase", 1);
+                due("flip", x.flip(last), 0);
+                due("undo", x.undo(), 3);
+                dueLast(x, "undo of flip", 1);
+                sendOnlyZeros(x, third);
+                due("undo", x.undo(), 3);
+                due("undo", x.undo(), 2);
+                due("undo", x.undo(), 1);
+                dueLast(x, "undo of another line", 1);
+            }
+        });
+    }
+
+    private static void restoreOfLastSymbols(Sentences all) {
+        all.of("Restores the state of the snapshot, which stays.", () -> {
+            for (int third : new int[] {0, 32}) {
+                Walks x = withLastOnes(third);
+                due("keep", x.keep(), 80);
+                due("erase", x.erase(x.count(7) - 1), 1);
+                due("restore", x.restore(), 80);
+                dueLast(x, "restore over erase", 1);
+                sendOnlyZeros(x, third);
+                due("restore", x.restore(), 80);
+                dueLast(x, "restore over another line", 1);
+                due("undo", x.undo(), 3);
+                dueLast(x, "undo of restore", 0);
+            }
         });
     }
 
